@@ -75,7 +75,7 @@ public final class RecurrenceBook {
             throw new IllegalArgumentException("no rule");
         }
         Event made = events[eventCount];
-        made.begin(reader.rule, day, minute, length);
+        made.begin(minute, length, new Unfolding(reader.rule, day, made.days).unfold());
         made.settle(present);
         eventCount++;
         return eventCount - 1;
@@ -204,7 +204,7 @@ public final class RecurrenceBook {
         return day >= 0 && day <= LAST_DAY;
     }
 
-    /** The calendar; months here count from 0, January 2000, on. */
+    /** The calendar; months here count from 0, January 2000, on, and years from 0, 2000, on. */
     private static final class Dates {
         private static final int[] DAYS_BEFORE_MONTH = {0, 31, 59, 90, 120, 151, 181, 212, 243, 273, 304, 334};
         private static final int FOUR_YEARS = 1461;
@@ -214,22 +214,18 @@ public final class RecurrenceBook {
 
         /** MO is 0. */
         static int weekdayOf(int day) {
-            return Math.floorMod(day + 5, 7);
+            return (day + 5) % 7;
         }
 
         static int yearOf(int day) {
-            return Math.floorDiv(4 * day, FOUR_YEARS);
+            return 4 * day / FOUR_YEARS;
         }
 
         static int monthStart(int month) {
-            int year = Math.floorDiv(month, 12);
+            int year = month / 12;
             int ofYear = Math.floorMod(month, 12);
-            int leapDay = ofYear >= 2 && Math.floorMod(year, 4) == 0 ? 1 : 0;
-            return 365 * year + Math.floorDiv(year + 3, 4) + DAYS_BEFORE_MONTH[ofYear] + leapDay;
-        }
-
-        static int monthLength(int month) {
-            return monthStart(month + 1) - monthStart(month);
+            int leapDay = ofYear >= 2 && year % 4 == 0 ? 1 : 0;
+            return 365 * year + (year + 3) / 4 + DAYS_BEFORE_MONTH[ofYear] + leapDay;
         }
 
         static int monthOf(int day) {
@@ -244,10 +240,11 @@ public final class RecurrenceBook {
                 return -1;
             }
             int index = 12 * (year - FIRST_YEAR) + month - 1;
-            if (number < 1 || number > monthLength(index)) {
+            int start = monthStart(index);
+            if (number < 1 || number > monthStart(index + 1) - start) {
                 return -1;
             }
-            return monthStart(index) + number - 1;
+            return start + number - 1;
         }
 
         /** The n-th SU of a month; with n 5 the last one, which may be the fourth. */
@@ -285,10 +282,10 @@ public final class RecurrenceBook {
         }
 
         boolean isSummer(int moment) {
-            // The offset may carry a begin or an end over the turn of the year.
-            int year = Dates.yearOf(Math.floorDiv(moment, DAY_MINUTES));
+            // A high offset may carry a begin into the year before; no end goes behind its day.
+            int year = Dates.yearOf(moment / DAY_MINUTES);
             int last = Math.min(YEARS - 1, year + 1);
-            for (int y = Math.max(0, year - 1); y <= last; y++) {
+            for (int y = Math.max(0, year); y <= last; y++) {
                 if (begins[y] <= moment && moment < ends[y]) {
                     return true;
                 }
@@ -354,7 +351,7 @@ public final class RecurrenceBook {
         }
 
         boolean hasWeekdays() {
-            return weekdays != 0 || hasNthWeekdays();
+            return (weekdays | nth | nthFromEnd) != 0;
         }
 
         boolean hasNumbers() {
@@ -362,7 +359,7 @@ public final class RecurrenceBook {
         }
 
         boolean allowsMonth(int month) {
-            return months == 0 || (months & (1 << (Math.floorMod(month, 12) + 1))) != 0;
+            return months == 0 || (months & (1 << (month % 12 + 1))) != 0;
         }
 
         boolean allowsNumber(int number, int monthLength) {
@@ -653,15 +650,11 @@ public final class RecurrenceBook {
         private void addWeeks() {
             int weekdays = rule.weekdays != 0 ? rule.weekdays : 1 << firstWeekday;
             for (int monday = first - firstWeekday; monday <= rule.until && count < limit; monday += 7 * interval) {
-                addWeek(monday, weekdays);
-            }
-        }
-
-        private void addWeek(int monday, int weekdays) {
-            for (int weekday = 0; weekday < 7; weekday++) {
-                followMonth(monday + weekday);
-                if (monthMeant && (weekdays & (1 << weekday)) != 0) {
-                    add(monday + weekday);
+                for (int weekday = 0; weekday < 7; weekday++) {
+                    followMonth(monday + weekday);
+                    if (monthMeant && (weekdays & (1 << weekday)) != 0) {
+                        add(monday + weekday);
+                    }
                 }
             }
         }
@@ -675,17 +668,11 @@ public final class RecurrenceBook {
         private void addYears() {
             int monthOfYear = firstMonth % 12;
             for (int january = firstMonth - monthOfYear; january < MONTHS && count < limit; january += 12 * interval) {
-                addYear(january, monthOfYear);
-            }
-        }
-
-        private void addYear(int january, int monthOfYear) {
-            if (rule.months == 0) {
-                addMonth(january + monthOfYear);
-                return;
-            }
-            for (int i = 0; i < 12; i++) {
-                addMonth(january + i);
+                for (int i = 0; i < 12; i++) {
+                    if (rule.months != 0 || i == monthOfYear) {
+                        addMonth(january + i);
+                    }
+                }
             }
         }
 
@@ -705,7 +692,7 @@ public final class RecurrenceBook {
 
         private void enterMonth(int month) {
             monthStart = Dates.monthStart(month);
-            monthLength = Dates.monthLength(month);
+            monthLength = Dates.monthStart(month + 1) - monthStart;
             monthMeant = rule.allowsMonth(month);
         }
 
@@ -744,11 +731,12 @@ public final class RecurrenceBook {
             starts = new int[MOST_DAYS];
         }
 
-        void begin(Rule rule, int first, int newMinute, int newLength) {
+        /** The row of days is filled already. */
+        void begin(int newMinute, int newLength, int newCount) {
             minute = newMinute;
             length = newLength;
+            count = newCount;
             excluded = 0;
-            count = new Unfolding(rule, first, days).unfold();
         }
 
         /** A day that is left out is no more in the row, so it can't be left out again. */
