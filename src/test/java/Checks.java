@@ -1,3 +1,5 @@
+import java.time.LocalDate;
+import java.time.temporal.ChronoUnit;
 import java.util.NoSuchElementException;
 
 /** What the tests share: counting wrong answers, and typing texts. */
@@ -24,19 +26,16 @@ final class Checks {
         due(call, got ? 1 : 0, want ? 1 : 0);
     }
 
-    /** The kind of exception that a call throws. */
+    /** The kind of exception that a call throws: these very classes, for one below them is not what is promised. */
     static int thrown(Runnable call) {
         try {
             call.run();
             return NOTHING;
-        } catch (IllegalStateException e) {
-            return STATE;
-        } catch (IllegalArgumentException e) {
-            return ARGUMENT;
-        } catch (NoSuchElementException e) {
-            return ELEMENT;
         } catch (RuntimeException e) {
-            return OTHER;
+            Class<?> kind = e.getClass();
+            return kind == IllegalStateException.class ? STATE
+                : kind == IllegalArgumentException.class ? ARGUMENT
+                : kind == NoSuchElementException.class ? ELEMENT : OTHER;
         }
     }
 
@@ -50,6 +49,11 @@ final class Checks {
 
     static void throwsElement(String call, Runnable run) {
         due(call + " (kind of exception)", thrown(run), ELEMENT);
+    }
+
+    /** The day with a date, by the Java library. */
+    static int on(int year, int month, int number) {
+        return (int) ChronoUnit.DAYS.between(LocalDate.of(2000, 1, 1), LocalDate.of(year, month, number));
     }
 
     static void type(RecurrenceBook book, String text) {
@@ -68,12 +72,22 @@ final class Checks {
         return book.event(day, minute, length);
     }
 
+    /** That as many characters are typed as said: so many more go in, and then none. */
+    static void typedDue(String what, RecurrenceBook book, int typed) {
+        for (int i = typed; i < 60; i++) {
+            due(what + ": type of character " + i, book.type('x'), true);
+        }
+        due(what + ": type of character 60", book.type('x'), false);
+    }
+
     /** All the days of an event. */
     static void daysDue(String what, RecurrenceBook book, int event, int... days) {
-        due(what + ": times", book.times(event), days.length);
-        for (int k = 0; k < days.length && k < book.times(event); k++) {
+        int times = book.times(event);
+        due(what + ": times", times, days.length);
+        for (int k = 0; k < days.length && k < times; k++) {
             due(what + ": day " + k, book.day(event, k), days[k]);
         }
+        throwsElement(what + ": day behind the last one", () -> book.day(event, times));
     }
 
     /** All the spans of the latest busy, begin and end in turn. */
