@@ -12,6 +12,7 @@ public final class RuleDaysTest {
         yearly();
         takesAnIntervalOfOneWithoutIt();
         stepsByIntervals();
+        stepsFromThePeriodOfTheFirstDay();
         looksOnlyAtPartsThatAreThere();
         countsMonthDaysFromTheEnd();
         countsWeekdaysOfTheMonth();
@@ -127,6 +128,26 @@ public final class RuleDaysTest {
         days("FREQ=YEARLY;INTERVAL=99", 0, 0, 36160);
         days("FREQ=YEARLY;INTERVAL=99", 366, 366);
         days("FREQ=YEARLY;INTERVAL=98", 366, 366, 36160);
+    }
+
+    /** The period of D is the first one, wherever D is in it, and in whatever year. */
+    private static void stepsFromThePeriodOfTheFirstDay() {
+        int june = Checks.on(2001, 6, 10);
+        days("FREQ=YEARLY;INTERVAL=2;BYMONTH=1,12;COUNT=4", june,
+            Checks.on(2001, 12, 10), Checks.on(2003, 1, 10), Checks.on(2003, 12, 10), Checks.on(2005, 1, 10));
+        days("FREQ=YEARLY;INTERVAL=50;BYMONTH=6,7", Checks.on(2048, 7, 1),
+            Checks.on(2048, 7, 1), Checks.on(2098, 6, 1), Checks.on(2098, 7, 1));
+        days("FREQ=YEARLY;INTERVAL=51;BYMONTH=1,12", Checks.on(2048, 12, 1),
+            Checks.on(2048, 12, 1), Checks.on(2099, 1, 1), Checks.on(2099, 12, 1));
+        days("FREQ=MONTHLY;INTERVAL=2;BYMONTHDAY=1,-1;COUNT=4", Checks.on(2001, 12, 31),
+            Checks.on(2001, 12, 31), Checks.on(2002, 2, 1), Checks.on(2002, 2, 28), Checks.on(2002, 4, 1));
+        days("FREQ=MONTHLY;INTERVAL=13;COUNT=3", Checks.on(2050, 12, 5),
+            Checks.on(2050, 12, 5), Checks.on(2052, 1, 5), Checks.on(2053, 2, 5));
+        // 30 December 2049 is a TH, and 31 a FR; the week goes on in 2050.
+        days("FREQ=WEEKLY;INTERVAL=2;BYDAY=WE,FR,SU;COUNT=4", Checks.on(2049, 12, 30),
+            Checks.on(2049, 12, 31), Checks.on(2050, 1, 2), Checks.on(2050, 1, 12), Checks.on(2050, 1, 14));
+        days("FREQ=DAILY;INTERVAL=30;COUNT=3", Checks.on(2049, 12, 30),
+            Checks.on(2049, 12, 30), Checks.on(2050, 1, 29), Checks.on(2050, 2, 28));
     }
 
     /** "(each only if it is there; so below)" */
