@@ -18,6 +18,7 @@ public final class BusyTest {
         takesMomentsBehindTheLastDay();
         ordersByMoment();
         putsTogetherOverTheChanges();
+        lastsAsLongOverTheChanges();
         holdsManySpans();
         Checks.finish("BusyTest");
     }
@@ -211,6 +212,18 @@ public final class BusyTest {
         book.zone(0, 60, 3, 5, 10, 5);
         Checks.spansDue("where summer begins", book, book.busy(begin, begin + 1440), begin + 60, begin + 180);
         Checks.spansDue("where summer ends", book, book.busy(end, end + 1440), end + 60, end + 120, end + 180, end + 240);
+    }
+
+    /** "and lasts as long as its length": in moments, whatever the zone does to local times meanwhile. */
+    private static void lastsAsLongOverTheChanges() {
+        RecurrenceBook book = new RecurrenceBook();
+        book.zone(-840, 840, 3, 5, 10, 5);
+        book.event(84, 0, 2880);
+        book.event(302, 0, 2880);
+        int begin = 84 * 1440 + 840;
+        int end = 302 * 1440 - 840;
+        Checks.spansDue("where summer begins", book, book.busy(begin - 5000, begin + 5000), begin, begin + 2880);
+        Checks.spansDue("where summer ends", book, book.busy(end - 5000, end + 5000), end, end + 2880);
     }
 
     /** Eight events with a time a day: as many spans as 200000 moments can hold. */
