@@ -1,3 +1,5 @@
+import java.time.LocalDate;
+
 /** Promise 4 with the terms: which days a rule means. Day 0 is Saturday, 1 January 2000. */
 public final class RuleDaysTest {
     private static final String[] WEEKDAYS = {"MO", "TU", "WE", "TH", "FR", "SA", "SU"};
@@ -5,6 +7,7 @@ public final class RuleDaysTest {
     public static void main(String[] args) {
         meansOneDayByTheEmptyText();
         knowsTheWeekdays();
+        knowsTheMonthAndNumberOfEveryFirstDay();
         beginsWeeksWithMonday();
         daily();
         weekly();
@@ -43,6 +46,19 @@ public final class RuleDaysTest {
         for (int day = 0; day < 7; day++) {
             days("FREQ=DAILY;COUNT=1;BYDAY=" + WEEKDAYS[(day + 5) % 7], 0, day);
             days("FREQ=DAILY;BYDAY=" + WEEKDAYS[(day + 5) % 7], 36518, 36518 + (day + 1) % 7);
+        }
+    }
+
+    /** A year with 29 February, one without, and the last one. */
+    private static void knowsTheMonthAndNumberOfEveryFirstDay() {
+        LocalDate date = LocalDate.of(2000, 1, 1);
+        for (int day = 0; day <= 36524; day++) {
+            if (date.getYear() < 2002 || date.getYear() == 2099) {
+                days("FREQ=DAILY;COUNT=1;BYMONTH=" + date.getMonthValue() + ";BYMONTHDAY=" + date.getDayOfMonth(), day, day);
+                days("FREQ=MONTHLY;COUNT=1", day, day);
+                days("FREQ=YEARLY;COUNT=1", day, day);
+            }
+            date = date.plusDays(1);
         }
     }
 
